@@ -62,10 +62,10 @@ public final class BearerKin {
         County empty = new County(reader);
         hours = new Hours(empty);
         Desk desk = new Desk();
-        coming = new Coming();
-        keeper = new Keeping(desk);
+        coming = new Coming(empty);
+        keeper = new Keeping(desk, empty);
         paths = new Rows(desk);
-        beast = new Beast(desk);
+        beast = new Beast(desk, empty);
         told = new Told();
         now = new Moment(empty);
         trial = new Moment(empty);
@@ -1574,6 +1574,10 @@ public final class BearerKin {
         private int found;
         private int searched;
 
+        Coming(County county) {
+            this.county = county;
+        }
+
         void start(Hours hours, int stand) {
             if (county == hours.county && sky == hours.sky && start == stand && found > 0) {
                 return;
@@ -1681,13 +1685,14 @@ public final class BearerKin {
         private final int[] deeds = new int[Hours.MOST_DEEDS];
         private final int[] behind = new int[Hours.MOST_DEEDS];
 
-        Keeping(Desk desk) {
+        Keeping(Desk desk, County county) {
             this.desk = desk;
+            this.county = county;
         }
 
         private void prepare(Hours hours) {
             desk.fit(hours.county.size);
-            if (county == hours.county && sky == hours.sky) {
+            if (county == hours.county && sky == hours.sky && worths.length >= county.size) {
                 return;
             }
             county = hours.county;
@@ -1982,8 +1987,9 @@ public final class BearerKin {
         private int[] worths = new int[0];
         private int met;
 
-        Beast(Desk desk) {
+        Beast(Desk desk, County county) {
             this.desk = desk;
+            this.county = county;
         }
 
         /** Of a stand that was solved. */
@@ -2008,7 +2014,7 @@ public final class BearerKin {
 
         void solve(Hours hours, int start) {
             boolean same = county == hours.county && sky == hours.sky;
-            if (same && worths[start] != 0) {
+            if (same && start < worths.length && worths[start] != 0) {
                 return;
             }
             county = hours.county;

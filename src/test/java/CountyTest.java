@@ -14,6 +14,7 @@ final class CountyTest {
         whyNot();
         whatAnHourBrings();
         laws();
+        manyLaws();
         Check.end("CountyTest");
     }
 
@@ -86,6 +87,12 @@ final class CountyTest {
         Check.due("3 later strength", x.kin(0, 2), 2);
         Check.due("3 later age", x.kin(0, 1), 9);
         Check.due("3 later bears", x.count(2), 0);
+        Check.feed(x, "county places 12;");
+        Check.due("3 no byte behind them", x.county(15), -32);
+        Check.due("3 it ends there", x.fault(1), 15);
+        Check.feed(x, "county places 1;weathers");
+        Check.due("3 no letter behind them", x.county(23), -32);
+        Check.due("3 a number is missing", x.fault(1), 23);
         Check.due("3 three digits", Check.tell(x, "county places 001;"), 1);
         Check.due("3 struck laws are read", Check.tell(x, "county places 1;tires: goes;tires: 3;may: from=1;may: 1=1;"), 5);
     }
@@ -128,6 +135,11 @@ final class CountyTest {
         fault("county places 2;weather 9", 2, 25);
         fault("county places 2;moo;", 2, 16);
         fault("county places 2;wayy 0 1;", 2, 16);
+        fault("county places 2;z;", 2, 16);
+        fault("county places 2;wayz 0 1;", 2, 16);
+        fault("county places 2;way`0 1;", 1, 19);
+        fault("county places 2;way{0 1;", 1, 19);
+        fault("county places 2;way/0 1;", 1, 19);
         fault("county places 2;way 0 1, 2;", 1, 23);
         fault("county places 2;way\t0 1;", 1, 19);
         fault("county places 2;\u00e9", 1, 16);
@@ -253,6 +265,14 @@ final class CountyTest {
         BearerKin x = Check.with("county places 2;height 0 2;height 1 7;way 0 1;weather 4;kin at 0 age 5 strength 1;"
             + "kin at 0 age 6 strength 2;bears 1;may:" + may + ";");
         Check.due("7 " + may, x.why(111), due);
+    }
+
+    private static void manyLaws() {
+        BearerKin x = new BearerKin();
+        for (int i = 0; i < 60; i++) {
+            Check.tell(x, "county places 1;kin at 0;tires: 1+1+1+1+1+1+1+1+1+1+1+1+1+1-13+" + i % 2 + ";");
+            Check.due("3 a county behind many others", x.by(0, 0), 1 + i % 2);
+        }
     }
 
     private static void laws() {

@@ -117,6 +117,12 @@ final class DeedsTest {
         Check.due("13 no way", judged(x, 0), 1, 3, 0, 2);
         Check.fill(x, 0, 1);
         Check.due("13 no deed", judged(x, 0), 0, 1, 0, 3);
+        for (long none : new long[] {-1, 9, 12, 19, 23, 29, 40, 99, 103, 120, 199, 200}) {
+            Check.fill(x, 0, none);
+            Check.due("13 none such " + none, judged(x, 0), 0, 1, 0, 3);
+        }
+        Check.fill(x, 0, 30, 39, 20, 21, 0, 10);
+        Check.due("13 some that can be", judged(x, 0), 5, 3, 0, 2);
         Check.fill(x, 0, 22);
         Check.due("13 a meal for none", judged(x, 0), 0, 1, 0, 3);
         Check.fill(x, 0, 1L << 32);

@@ -102,6 +102,11 @@ final class KeptTest {
         BearerKin z = Check.with("county places 2;height 1 5;way 0 1;kin at 0;kin at 1;"
             + "tires: if height=5 then 3 else strength-1 end;may: kin=0;");
         Check.due("19 it must go", z.needed(3), 1);
+        BearerKin w = Check.with("county places 2;height 0 5;way 0 1;kin at 1;"
+            + "tires: if height=5 then 3 else strength-1 end;");
+        Check.due("19 it must go to place 0", w.needed(3), 1);
+        BearerKin v = Check.with("county places 1;kin at 0;kin at 0;tires: strength-bears;");
+        Check.due("19 just so many, and one more", new long[] {v.needed(4), v.needed(5)}, 2, 0);
     }
 
     private static void coming() {
@@ -184,6 +189,9 @@ final class KeptTest {
         x.weather(2);
         Check.due("30 by a third", x.lasts(), 0);
         Check.due("31 by a third", x.best(), -1);
+        x.weather(0);
+        Check.due("30 by the first weather again", x.lasts(), 2);
+        Check.due("31 by the first weather again", x.best(), 0);
         Check.due("30 nothing was done", x.count(7), 0);
     }
 }
