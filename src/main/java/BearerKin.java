@@ -1617,7 +1617,7 @@ public final class BearerKin {
 
         /** The first stand met in which it is up at a place, borne by one (NONE: any), or NONE. */
         int find(Hours hours, int k, int p) {
-            for (int i = 0; i < found; i++) {
+            for (int i = 0; i < found && i < county.size; i++) {
                 int stand = queue[i];
                 if (!county.isDown(stand) && county.where(stand) == k
                     && (p == NONE || county.bearerOf(stand) == p)) {
@@ -1631,7 +1631,7 @@ public final class BearerKin {
         int bits(Hours hours, boolean ofBearers) {
             int full = (1 << (ofBearers ? county.kin : county.places)) - 1;
             int mask = 0;
-            for (int i = 0; i < found && mask != full; i++) {
+            for (int i = 0; i < found && i < county.size && mask != full; i++) {
                 int stand = queue[i];
                 if (!county.isDown(stand)) {
                     mask |= 1 << (ofBearers ? county.bearerOf(stand) : county.where(stand));
@@ -1642,7 +1642,7 @@ public final class BearerKin {
         }
 
         int all(Hours hours) {
-            for (int i = 0; i < found; i++) {
+            for (int i = 0; i < found && i < county.size; i++) {
                 searchOn(hours, i);
             }
             return found;
@@ -2043,7 +2043,7 @@ public final class BearerKin {
         private void meetAll(Hours hours, int start) {
             met = 0;
             meet(start);
-            for (int i = 0; i < met; i++) {
+            for (int i = 0; i < met && i < county.size; i++) {
                 int stand = desk.list[i];
                 desk.other[stand] = NONE;
                 hours.spread(stand);
