@@ -1,7 +1,13 @@
+import java.lang.reflect.Method;
+import java.util.Arrays;
+import java.util.Comparator;
+
 /** What the promise tests share: due answers, texts onto the tape, filled trays. */
 final class Check {
     private static int wrong;
     private static int made;
+    /** The test that runs, in front of what it prints. */
+    private static String test = "";
 
     private Check() {
     }
@@ -10,7 +16,7 @@ final class Check {
         made++;
         if (got != want) {
             wrong++;
-            System.out.println(what + ": answered " + got + ", due is " + want);
+            System.out.println(test + what + ": answered " + got + ", due is " + want);
         }
     }
 
@@ -27,6 +33,33 @@ final class Check {
         if (wrong != 0) {
             System.exit(1);
         }
+    }
+
+    /** Runs each test of a class, a method that is named by its term or by its promise. */
+    static void runAll(Class<?> tests) {
+        Method[] methods = tests.getDeclaredMethods();
+        Arrays.sort(methods, Comparator.comparing(Method::getName));
+        int ran = 0;
+        for (Method m : methods) {
+            if (m.getName().matches("(term|promise)\\d.*")) {
+                test = m.getName() + ": ";
+                int madeAhead = made;
+                try {
+                    m.invoke(null);
+                } catch (ReflectiveOperationException e) {
+                    wrong++;
+                    System.out.println(test + "it failed by " + e.getCause());
+                }
+                if (made == madeAhead) {
+                    wrong++;
+                    System.out.println(test + "it checks nothing");
+                }
+                ran++;
+            }
+        }
+        test = "";
+        System.out.println(tests.getSimpleName() + ": " + ran + " tests of bounds");
+        end(tests.getSimpleName());
     }
 
     static void feed(BearerKin x, String text) {
