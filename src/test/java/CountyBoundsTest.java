@@ -106,6 +106,28 @@ final class CountyBoundsTest {
         Check.due("there it ends", x.fault(1), 19);
     }
 
+    static void promise03_theFirstNBytesAlone() {
+        BearerKin x = new BearerKin();
+        Check.feed(x, "county places 12;");
+        Check.due("a digit behind them isn't read", x.county(15), -32);
+        Check.due("it ends there", x.fault(1), 15);
+        Check.feed(x, "county places 5;weather 0091;");
+        Check.due("a fourth digit behind them isn't read", x.county(27), -32);
+        Check.due("it ends there", x.fault(1), 27);
+        Check.feed(x, "county places 1;weathers");
+        Check.due("a letter behind them isn't read", x.county(23), -32);
+        Check.due("it ends there", x.fault(1), 23);
+        Check.feed(x, "county places 1;?");
+        Check.due("no token behind them", x.county(16), 1);
+        // nor what was on the tape ahead of it
+        Check.feed(x, "county places 1;weather 9;");
+        x.county(0);
+        Check.feed(x, "county places 2;");
+        Check.due("twenty bytes are there", x.county(26), -3);
+        Check.due("they are read", x.county(20), 1);
+        Check.due("weather", x.count(6), 0);
+    }
+
     static void promise03_aFaultLeavesAllButTheTape() {
         String[] texts = {"county places 1;!", "county places 1;way;", "county places 7;", "county places 1;"
             + "kin at 0;kin at 0;kin at 0;kin at 0;"};
@@ -148,8 +170,15 @@ final class CountyBoundsTest {
     static void promise03_lawsAreOfThisCountyAlone() {
         BearerKin x = Check.with("county places 2;way 0 1;kin at 0;tires:2;may:1=0;");
         Check.due("by a law", new long[] {x.by(0, 0), x.why(101)}, 2, 4);
-        Check.tell(x, "county places 2;way 0 1;kin at 0 strength 2;");
-        Check.due("without one", new long[] {x.by(0, 0), x.why(101)}, 1, 0);
+        Check.tell(x, "county places 2;way 0 1;kin at 0;tires:1;may:1=1;");
+        Check.due("by another one", new long[] {x.by(0, 0), x.why(101)}, 1, 0);
+        Check.tell(x, "county places 2;way 0 1;kin at 0;may:0=1;");
+        Check.due("without one", new long[] {x.by(0, 0), x.why(101)}, 2, 4);
+        x.image(0);
+        Check.tell(x, "county places 2;way 0 1;kin at 0;tires:3;");
+        Check.due("without the other one", new long[] {x.by(0, 0), x.why(101)}, 3, 0);
+        x.restore(0);
+        Check.due("those of an image", new long[] {x.by(0, 0), x.why(101)}, 2, 4);
     }
 
     // ---- promise 4

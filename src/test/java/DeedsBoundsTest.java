@@ -191,8 +191,13 @@ final class DeedsBoundsTest {
         x.undo(1);
         Check.due("as it was", new long[] {x.count(2), x.count(3), x.count(4), x.count(6), x.count(7)}, 1, 0, 4, 0, 0);
         Check.due("kin 0 is where it was", x.kin(0, 0), 0);
+        x.weather(3);
+        x.hour(10);
+        x.hour(101);
         x.century(5, 40);
-        Check.due("a century is one", x.undo(1), 0);
+        Check.due("a century is one", x.undo(1), 3);
+        Check.due("as it was", new long[] {x.count(2), x.count(3), x.count(4), x.count(6), x.count(7)}, 0, 1, 4, 3, 2);
+        Check.due("and what was ahead of it", x.undo(3), 0);
         Check.due("as it was", new long[] {x.count(2), x.count(3), x.count(4), x.count(6), x.count(7)}, 1, 0, 4, 0, 0);
     }
 

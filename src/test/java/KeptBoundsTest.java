@@ -192,6 +192,9 @@ final class KeptBoundsTest {
         Check.due("one hour without going", x.needed(1), 0);
         Check.due("two hours by going", x.needed(2), 1);
         Check.due("twenty", x.needed(20), 1);
+        BearerKin y = Check.with("county places 2;height 0 1;way 0 1;kin at 1 strength 2;"
+            + "tires:if height=1 then 3 else strength-1 end;");
+        Check.due("by going to place 0, the least number of all", new long[] {y.needed(1), y.needed(2)}, 0, 1);
         // another one that comes, is handed it and goes back does as well
         Check.due("either", Check.with(text + "kin at 1;").needed(20), 0);
     }
@@ -318,6 +321,74 @@ final class KeptBoundsTest {
         Check.due("each at five places, three of whom bear it", x.stands(), 375);
     }
 
+    // ---- "HOURS from now on": what was asked ahead doesn't count
+
+    private static final int STEPS = 12;
+
+    private static void change(BearerKin x, int step) {
+        switch (step) {
+            case 0:
+                Check.tell(x, "county places 3;height 2 1;way 0 1;way 1 2;kin at 0;kin at 0 strength 2;weather 1;"
+                    + "tires:strength-bears*weather;may:strength>weather;");
+                x.image(0);
+                break;
+            case 1:
+                x.hour(0);
+                break;
+            case 2:
+                x.weather(2);
+                break;
+            case 3:
+                x.hour(11);
+                break;
+            case 4:
+                x.meal(1);
+                break;
+            case 5:
+                x.weather(0);
+                break;
+            case 6:
+                x.undo(2);
+                break;
+            case 7:
+                x.hour(101);
+                break;
+            case 8:
+                x.meal(0);
+                break;
+            case 9:
+                x.restore(0);
+                break;
+            case 10:
+                Check.tell(x, "county places 3;way 0 1;way 1 2;kin at 0;kin at 0 strength 2;weather 1;");
+                break;
+            default:
+                Check.tell(x, "county places 1;kin at 0;weather 1;");
+                break;
+        }
+    }
+
+    private static long[] ask(BearerKin x) {
+        Check.fill(x, 0, -1, 0, -1);
+        Check.fill(x, 1, 2, 1);
+        Check.fill(x, 2, 0, 10);
+        return new long[] {x.up(), x.keeping(0), x.keeping(3), x.rows(3), x.needed(4), x.soonest(0, 0), x.soonest(0, -1),
+            x.way(0, 0, 0), x.reach(), x.bearers(), x.stands(), x.seen(0), x.seenBy(0, 1), x.suspects(0, 1),
+            x.weathers(1), x.attempt(1), x.lasts(), x.best(), x.chance(2, 0), x.mean(2, 0), x.why(10)};
+    }
+
+    static void term3_fromNowOnWhateverWasAskedAhead() {
+        BearerKin x = new BearerKin();
+        for (int step = 0; step < STEPS; step++) {
+            change(x, step);
+            BearerKin y = new BearerKin();
+            for (int i = 0; i <= step; i++) {
+                change(y, i);
+            }
+            Check.due("behind step " + step, ask(x), ask(y));
+        }
+    }
+
     // ---- promises 30 and 31
 
     static void promise30_itIsDown() {
@@ -375,6 +446,12 @@ final class KeptBoundsTest {
         String refuge = "height 1 1;way 0 1;tires:if height=1 then 3 else strength-1 end;";
         beast("it must go at once", "county places 2;kin at 0 strength 2;" + refuge, -1, 101);
         beast("it can still rest once", "county places 2;kin at 0 strength 3;" + refuge, -1, 0);
+    }
+
+    static void promise31_theFirstByWhichTheyLastSoLong() {
+        // a rest leaves 2, wearied 1, and that one can't be kept up; to go leaves 3, wearied 2, then 1
+        beast("to go", "county places 2;height 1 1;way 0 1;kin at 0;tires:if height=1 then strength else strength-1 end;",
+            2, 101);
     }
 
     static void promise31_notForOneHour() {

@@ -197,6 +197,28 @@ final class TextBoundsTest {
         Check.due("may", x.why(101), 4);
     }
 
+    static void term1_whatIsNotToldIsSoWhateverTheCountyAheadWas() {
+        BearerKin x = Check.with("county places 3;height 0 1;height 2 9;way 0 1;way 1 2;kin at 2 age 9 strength 1;"
+            + "kin at 1 age 8 strength 0;kin at 2 age 7 strength 2;bears 2;weather 9;tires:2;may:1=0;");
+        x.weather(8);
+        Check.tell(x, "county places 3;way 0 2;kin at 0;kin at 0;kin at 0;");
+        for (int k = 0; k < 3; k++) {
+            Check.due("height " + k, x.place(k, 0), 0);
+            Check.due("ways " + k, x.place(k, 1), new long[] {4, 0, 1}[k]);
+        }
+        for (int p = 0; p < 3; p++) {
+            Check.due("kin " + p, new long[] {x.kin(p, 0), x.kin(p, 1), x.kin(p, 2), x.kin(p, 3)}, 0, 0, 3, p == 0 ? 1 : 0);
+        }
+        Check.due("weather", x.count(6), 0);
+        Check.due("no law tires", new long[] {x.by(0, 0), x.by(0, 1)}, 2, 3);
+        Check.due("no law may", x.why(102), 0);
+        // what a text with a fault told is nothing, either
+        Check.tell(x, "county places 3;height 0 5;kin at 1 age 4;weather 3;tires:1;may:1=0;bears 0;?");
+        Check.tell(x, "county places 2;kin at 0;");
+        Check.due("height, age, weather, kin, a rest", new long[] {x.place(0, 0), x.kin(0, 1), x.count(6), x.count(1),
+            x.by(0, 0)}, 0, 0, 0, 1, 2);
+    }
+
     static void term1_struckLinesMustBeWithoutAFault() {
         faulty(HEAD + "tires:from;tires:1;", 2, 22);
         faulty(HEAD + "weather 10;weather 1;", 3, 24);
@@ -252,6 +274,7 @@ final class TextBoundsTest {
         faulty(HEAD + "may:1=1 nd 1=1;", 2, 24);
         faulty(HEAD + "may:1=1 orr 1=1;", 2, 24);
         faulty(HEAD + "may:nott 1=1;", 2, 20);
+        faulty(HEAD + "may:not nott 1=1;", 2, 24);
         faulty(HEAD + "tires:if 1=1 the 1 else 1 end;", 2, 29);
         faulty(HEAD + "tires:if 1=1 then 1 else 1 en;", 2, 43);
         faulty(HEAD + "tires:if 1=1 then 1 else 1 endd;", 2, 43);
@@ -459,6 +482,72 @@ final class TextBoundsTest {
         reads(HEAD + "may:((((((1))))))=((((((1))))));", 2);
         reads(HEAD + "tires:(1)+(1)+(1)+(1)+(1)+(1)+(1)+(1);", 2);
         faulty(HEAD + "may:not [not 1=1 and not not not not not 1=1];", 4, 53);
+    }
+
+    static void term1_eachWordOfTheLaws() {
+        String text = "county places 2;height 0 5;height 1 6;way 0 1;kin at 0 age 8 strength 1;kin at 0 age 7 strength 2;"
+            + "bears 1;weather 4;";
+        String[] words = {"kin", "age", "strength", "bears", "weather"};
+        int[] due = {1, 7, 2, 1, 4};
+        for (int i = 0; i < words.length; i++) {
+            for (int v = due[i] - 1; v <= due[i] + 1; v++) {
+                String truth = words[i] + "=" + (v < 0 ? "0-1" : v);
+                BearerKin x = Check.with(text + "tires:if " + truth + " then 1 else 2 end;may:" + truth + ";");
+                Check.due("tires by " + truth, x.by(0, 1), v == due[i] ? 1 : 2);
+                Check.due("may by " + truth, x.why(111), v == due[i] ? 0 : 4);
+            }
+        }
+        for (int v = 4; v <= 7; v++) {
+            BearerKin x = Check.with(text + "tires:if height=" + v + " then 1 else 2 end;may:height=" + v + ";");
+            Check.due("height where it is, " + v, x.by(0, 1), v == 5 ? 1 : 2);
+            Check.due("height where it goes, " + v, x.why(111), v == 6 ? 0 : 4);
+            BearerKin y = Check.with(text + "may:from=" + v + ";tires:if height=" + v + " then 1 else 2 end;");
+            Check.due("from, " + v, y.why(111), v == 5 ? 0 : 4);
+            if (v == 5) {
+                Check.due("height where it came", y.by(111, 1), 2);
+            }
+        }
+        BearerKin z = Check.with(text + "tires:goes+1;");
+        Check.due("goes", new long[] {z.by(0, 1), z.by(111, 1), z.by(111, 0), z.by(10, 1)}, 1, 2, 1, 1);
+    }
+
+    static void term1_countiesOneBehindTheOther() {
+        BearerKin x = new BearerKin();
+        for (int i = 0; i < 20; i++) {
+            String law = "tires:0" + "+1-1".repeat(90) + "+" + i % 4 + ";";
+            Check.due("lines", Check.tell(x, HEAD + "kin at 0;" + law), 3);
+            Check.due("law " + i, x.by(0, 0), i % 4);
+        }
+    }
+
+    static void term1_notAndOrByEachTruth() {
+        for (int bits = 0; bits < 8; bits++) {
+            boolean a = (bits & 1) != 0;
+            boolean b = (bits & 2) != 0;
+            boolean c = (bits & 4) != 0;
+            holds("A or B and C", bits, a || b && c);
+            holds("A and B or C", bits, a && b || c);
+            holds("[A or B] and C", bits, (a || b) && c);
+            holds("A and [B or C]", bits, a && (b || c));
+            holds("not A or B", bits, !a || b);
+            holds("not A and B", bits, !a && b);
+            holds("not [A or B]", bits, !(a || b));
+            holds("not not A", bits, a);
+            holds("A or B or C", bits, a || b || c);
+            holds("A and B and C", bits, a && b && c);
+            holds("not A and not B or not C", bits, !a && !b || !c);
+        }
+    }
+
+    private static void holds(String truth, int bits, boolean due) {
+        String text = truth;
+        for (int i = 0; i < 3; i++) {
+            text = text.replace("" + (char) ('A' + i), (bits >> i & 1) == 1 ? "1=1" : "1=2");
+        }
+        BearerKin x = Check.with("county places 2;way 0 1;kin at 0;may:" + text + ";tires:if " + text
+            + " then 1 else 2 end;");
+        Check.due("may: " + text, x.why(101), due ? 0 : 4);
+        Check.due("if " + text, x.by(0, 0), due ? 1 : 2);
     }
 
     // ---- "Each + - * is kept from -1,000,000 to 1,000,000"

@@ -290,6 +290,20 @@ final class ToldBoundsTest {
         Check.due("the first of like ones", y.attempt(0), 0);
     }
 
+    static void promise29_weather0Too() {
+        // a rest tells 0 from 1 and 2, kin 1 going tells 2 from 0 and 1: two of three by each, the first
+        BearerKin x = Check.with("county places 2;way 0 1;kin at 0;kin at 0;tires:if kin=0 then if weather<3 then 3 else 0 "
+            + "end else if weather<1+goes then 1 else 2 end end;");
+        Check.fill(x, 0, 3);
+        Check.due("0 to 2", x.weathers(0), 7);
+        Check.due("the first", x.attempt(0), 0);
+        // a rest tells nothing, kin 1 going tells 0 from the others
+        BearerKin y = Check.with("county places 2;way 0 1;kin at 0;kin at 0;tires:if kin=0 then if weather<3 then 3 else 0 "
+            + "end else if weather<goes then 1 else 2 end end;");
+        Check.fill(y, 0, 3);
+        Check.due("kin 1 goes", y.attempt(0), 111);
+    }
+
     static void promise29_asNowIfItCantBe() {
         // by 5 to 9 it may go and has 2 then, by 0 to 4 it can't and has 3 as now; a rest leaves 2
         BearerKin x = Check.with("county places 2;way 0 1;kin at 0;tires:2;may:weather>4;");
@@ -376,6 +390,26 @@ final class ToldBoundsTest {
             above *= 9;
             Check.due(n + " hours", new long[] {x.chance(0, 0), x.chance(0, 1)}, above, below);
             Check.due(n + " hours, mean", new long[] {x.mean(0, 0), x.mean(0, 1)}, above, below);
+        }
+    }
+
+    static void promise32_eachHourThatIsTold() {
+        for (int n = 1; n <= 6; n++) {
+            for (int i = 0; i < n; i++) {
+                BearerKin x = Check.with("county places 2;way 0 1;kin at 0;kin at 0;tires:if goes=1 then 0 else 3 end;");
+                Check.fill(x, 0, many(n, 0));
+                Check.due("rests", x.chance(0, 0), 1);
+                x.write(0, i, 101);
+                Check.due("the bearer goes in hour " + i + " of " + n, x.chance(0, 0), 0);
+                x.write(0, i, 111);
+                Check.due("another one goes in hour " + i + " of " + n, x.chance(0, 0), 1);
+                x.write(0, i, 11);
+                Check.due("handed in hour " + i + " of " + n, x.chance(0, 0), 1);
+                if (i + 1 < n) {
+                    x.write(0, n - 1, 111);
+                    Check.due("handed to the one that goes in the last", x.chance(0, 0), 0);
+                }
+            }
         }
     }
 

@@ -72,6 +72,22 @@ final class TraysBoundsTest {
         Check.due("another sort", x.write(0, 0, 255), -1);
     }
 
+    static void promise34_numbersThatWereBehindDontCount() {
+        BearerKin x = Check.with("county places 1;kin at 0;tires:3;");
+        for (int n = 1; n <= 5; n++) {
+            Check.fill(x, 0, 0, 0, 0, 0, 0, 99, 99, 99, 99);
+            Check.due("nine", x.seen(0), -4);
+            x.numbers(0, 3, n);
+            x.numbers(0, 3, 5);
+            x.write(0, n - 1, 99);
+            x.numbers(0, 3, n - 1);
+            Check.due("seen, " + (n - 1), x.seen(0), n == 1 ? -4 : 1);
+            Check.due("weathers, " + (n - 1), x.weathers(0), n == 1 ? -4 : 0);
+            Check.due("chance, " + (n - 1), x.chance(0, 0), n == 1 ? -4 : 1);
+            Check.due("judged, " + (n - 1), x.judge(0, 0), -1);
+        }
+    }
+
     static void term3_traysAreMissingAtFirstEachAlone() {
         BearerKin x = new BearerKin();
         for (int tray = 0; tray < 4; tray++) {
