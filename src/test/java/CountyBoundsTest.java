@@ -181,6 +181,19 @@ final class CountyBoundsTest {
         Check.due("those of an image", new long[] {x.by(0, 0), x.why(101)}, 2, 4);
     }
 
+    static void promise03_manyCountiesEachWithItsOwnLaws() {
+        BearerKin x = new BearerKin();
+        int drawn = 1;
+        for (int i = 0; i < 60; i++) {
+            drawn = (drawn * 75 + 74) % 65537;
+            int v = drawn % 4;
+            int may = drawn / 4 % 2;
+            Check.tell(x, "county places 2;way 0 1;kin at 0;tires:" + v + ";may:1=" + may + ";");
+            Check.due("tires, county " + i, x.by(0, 0), v);
+            Check.due("may, county " + i, x.why(101), may == 1 ? 0 : 4);
+        }
+    }
+
     // ---- promise 4
 
     static void promise04_of0And1() {
@@ -461,6 +474,28 @@ final class CountyBoundsTest {
         Check.due("another goes", new long[] {y.by(111, 0), y.by(111, 1)}, 2, 1);
         BearerKin z = Check.with(text + "tires:strength;");
         Check.due("strengths that were ahead", new long[] {z.by(11, 0), z.by(11, 1)}, 3, 2);
+    }
+
+    static void term2_theLeastOfAllAndTheMostOfAll() {
+        // kin 0 of strength 0 doesn't bear it and goes to place 0 and from there, by weather 0
+        BearerKin x = Check.with("county places 5;way 0 1;way 0 4;kin at 1 strength 0;kin at 0;bears 1;may:1=1;"
+            + "tires:if kin=0 then if goes=1 then 1 else 2 end else 3 end;");
+        Check.due("to place 0", new long[] {x.why(100), x.by(100, 0), x.by(100, 1)}, 0, 1, 3);
+        x.hour(100);
+        Check.due("there", new long[] {x.kin(0, 0), x.kin(0, 2)}, 0, 1);
+        BearerKin y = Check.with("county places 5;way 0 1;way 0 4;kin at 0 strength 0;kin at 0;bears 1;may:height=0;"
+            + "tires:if kin=0 then if goes=1 then 1 else 2 end else 3 end;");
+        Check.due("from place 0", new long[] {y.why(101), y.by(101, 0), y.why(104), y.by(104, 0), y.by(0, 0)}, 0, 1, 0, 1, 2);
+        BearerKin z = Check.with("county places 5;way 0 1;way 0 4;kin at 0 strength 0;kin at 0;bears 1;tires:strength;");
+        Check.due("without a law", new long[] {z.why(101), z.why(104), z.by(0, 0)}, 4, 4, 0);
+        // kin 2 of strength 3 bears it and goes to place 4 and from there, by weather 9
+        String most = "county places 5;height 4 9;height 3 1;way 4 3;kin at 0;kin at 0;kin at 3 age 9;bears 2;weather 9;"
+            + "may:weather=9 and age=9 and strength=3 and bears=1;"
+            + "tires:if goes=1 and kin=2 and weather=9 and height=9 then 3 else 2 end;";
+        BearerKin w = Check.with(most);
+        Check.due("to place 4", new long[] {w.why(124), w.by(124, 2), w.by(124, 0), w.by(0, 2)}, 0, 3, 2, 2);
+        w.hour(124);
+        Check.due("there", new long[] {w.kin(2, 0), w.count(3), w.why(123), w.by(123, 2)}, 4, 4, 0, 2);
     }
 
     static void term2_inMayHeightIsWhereItGoesFromWhereItIs() {
