@@ -194,6 +194,23 @@ final class CountyBoundsTest {
         }
     }
 
+    static void promise03_lawsOfCountiesFarBehind() {
+        String text = "county places 2;way 0 1;kin at 0;";
+        for (int gap = 1; gap <= 20; gap++) {
+            for (int may = 0; may <= 1; may++) {
+                BearerKin x = new BearerKin();
+                Check.tell(x, text + "may:1=" + may + ";tires:1;");
+                Check.due("the first county", new long[] {x.why(101), x.by(0, 0)}, may == 1 ? 0 : 4, 1);
+                for (int i = 1; i < gap; i++) {
+                    Check.tell(x, text);
+                    x.why(0);
+                }
+                Check.tell(x, text + "may:1=" + (1 - may) + ";tires:2;");
+                Check.due("the " + gap + "th behind it", new long[] {x.why(101), x.by(0, 0)}, may == 1 ? 4 : 0, 2);
+            }
+        }
+    }
+
     // ---- promise 4
 
     static void promise04_of0And1() {
